@@ -292,6 +292,9 @@ public final class PromiseTest {
         bad("org 255;halt;jal r1,nope;", 3, 13);
         bad("word nope;org 255;halt;halt;", 2, 5);
         bad("org 9999;x:word x;", 3, 4);
+        bad("addi r1,r0,x;org 9999;x:;", 3, 17);
+        bad("jal r1,x;org 9999999999;x:;", 3, 13);
+        bad("word x;org 9999999999;x:;", 3, 11);
     }
 
     // Promise 4
