@@ -1,9 +1,5 @@
-import java.util.NoSuchElementException;
-
 /** Every promise of the document by hand-written cases: ordinary inputs, edges, wrong inputs. */
-public final class PromiseTest {
-    private static int wrong = 0;
-
+public final class PromiseTest extends Check {
     public static void main(String[] args) {
         newObject();
         type();
@@ -25,10 +21,7 @@ public final class PromiseTest {
         labels();
         label();
         told();
-        System.out.println(wrong == 0 ? "all promises hold" : wrong + " answers are wrong");
-        if (wrong != 0) {
-            System.exit(1);
-        }
+        finish();
     }
 
     // Promise 1
@@ -71,7 +64,7 @@ public final class PromiseTest {
         due("bytes above n are free", desk.type(0xFF00_0000_0000_003BL, 1), true);
         due("byte 32", desk.type(32, 1), true);
         due("byte 126", desk.type(126, 1), true);
-        faultDue("; ~", desk, 1, 2);
+        badDue(desk, "; ~", 1, 2);
         due("highest first", desk.type(0x68616C743BL, 5), true);
         due("halt;", assembled(desk), 1);
         due("eight", desk.type(0x776F72642033333BL, 8), true);
@@ -95,9 +88,9 @@ public final class PromiseTest {
         write(desk, ";".repeat(480));
         due("480 statements", assembled(desk), 0);
         write(desk, " ".repeat(479) + "$");
-        faultDue("last character", desk, 1, 479);
+        badDue(desk, "last character", 1, 479);
         write(desk, " ".repeat(476) + "halt");
-        faultDue("ends at 480", desk, 1, 480);
+        badDue(desk, "ends at 480", 1, 480);
     }
 
     // Promise 3
@@ -124,7 +117,7 @@ public final class PromiseTest {
         due("words gone", desk.word(1), 0);
         due("core gone", desk.start(3), 0);
         due("labels gone", desk.labels(), 0);
-        due("label gone", address(desk, "a"), -2);
+        due("label gone", label(desk, "a"), THROWN);
         due("told gone", desk.told(), 0);
         write(desk, "a:word a;");
         due("a label may be told again in a new text", assembled(desk), 1);
@@ -137,13 +130,13 @@ public final class PromiseTest {
         String[] faulty = {"b:word 9;core 1;word $;", "b:word 9;core 1;word nope;", "b:word 9;core 1;core 4;"};
         for (String text : faulty) {
             write(desk, text);
-            due(text, assembled(desk), -2);
+            due(text, assembled(desk), THROWN);
             due(text + " word 0", desk.word(0), 7);
             due(text + " word 1", desk.word(1), 8);
             due(text + " start", desk.start(1), 1);
             due(text + " labels", desk.labels(), 1);
-            due(text + " a", address(desk, "a"), 1);
-            due(text + " b", address(desk, "b"), -2);
+            due(text + " a", label(desk, "a"), 1);
+            due(text + " b", label(desk, "b"), THROWN);
             due(text + " told", desk.told(), 2);
         }
         write(desk, "halt;");
@@ -305,14 +298,14 @@ public final class PromiseTest {
             due("fault(" + what + ")", desk.fault(what), -1);
         }
         write(desk, " $");
-        due("a fault", assembled(desk), -2);
+        due("a fault", assembled(desk), THROWN);
         due("kind", desk.fault(0), 1);
         due("place", desk.fault(1), 1);
         due("another", desk.fault(2), -1);
         due("another", desk.fault(-1), -1);
         write(desk, "word x;");
         due("typing leaves it", desk.fault(0), 1);
-        due("next fault", assembled(desk), -2);
+        due("next fault", assembled(desk), THROWN);
         due("latest kind", desk.fault(0), 2);
         due("latest place", desk.fault(1), 5);
         due("empty tape", assembled(desk), 0);
@@ -391,7 +384,7 @@ public final class PromiseTest {
         due("word 255", word(desk, 255), 2);
         due("none told", word(desk, 1), 0);
         for (int k : new int[] {-1, 256, 257, Integer.MIN_VALUE, Integer.MAX_VALUE}) {
-            due("word " + k, word(desk, k), OUT);
+            due("word " + k, word(desk, k), THROWN);
         }
     }
 
@@ -406,7 +399,7 @@ public final class PromiseTest {
         due("start 2", start(desk, 2), 2);
         due("start 3", start(desk, 3), 9);
         for (int core : new int[] {-1, 4, Integer.MIN_VALUE, Integer.MAX_VALUE}) {
-            due("start " + core, start(desk, core), OUT);
+            due("start " + core, start(desk, core), THROWN);
         }
         write(desk, "org 5;core 1;core 2;org 3;core 1;org 255;core 3;halt;core 2;");
         due("one", assembled(desk), 1);
@@ -433,7 +426,7 @@ public final class PromiseTest {
         write(desk, many + ";");
         due("as many labels as a tape holds", assembled(desk), 0);
         due("as many labels as a tape holds", desk.labels(), 168);
-        due("the last of them", address(desk, "d7"), 0);
+        due("the last of them", label(desk, "d7"), 0);
     }
 
     // Promise 8
@@ -442,20 +435,20 @@ public final class PromiseTest {
         AsmDesk desk = new AsmDesk();
         write(desk, "a:halt;ab:halt;abcde9:org 255;word 1;end:halt:;");
         due("labels text", assembled(desk), 3);
-        due("a", address(desk, "a"), 0);
-        due("ab", address(desk, "ab"), 1);
-        due("abcde9", address(desk, "abcde9"), 2);
-        due("end", address(desk, "end"), 256);
-        due("halt", address(desk, "halt"), 256);
-        due("b", address(desk, "b"), -2);
-        due("ba", address(desk, "ba"), -2);
-        due("abcde", address(desk, "abcde"), -2);
-        due("0", address(desk, 0L), -2);
-        due("-1", address(desk, -1L), -2);
-        due("a with a byte above", address(desk, 0x0100_0000_0000_0061L), -2);
-        due("a with a 0 below", address(desk, 0x6100L), -2);
-        due("A", address(desk, "A"), -2);
-        due("none in a new object", address(new AsmDesk(), "a"), -2);
+        due("a", label(desk, "a"), 0);
+        due("ab", label(desk, "ab"), 1);
+        due("abcde9", label(desk, "abcde9"), 2);
+        due("end", label(desk, "end"), 256);
+        due("halt", label(desk, "halt"), 256);
+        due("b", label(desk, "b"), THROWN);
+        due("ba", label(desk, "ba"), THROWN);
+        due("abcde", label(desk, "abcde"), THROWN);
+        due("0", label(desk, 0L), THROWN);
+        due("-1", label(desk, -1L), THROWN);
+        due("a with a byte above", label(desk, 0x0100_0000_0000_0061L), THROWN);
+        due("a with a 0 below", label(desk, 0x6100L), THROWN);
+        due("A", label(desk, "A"), THROWN);
+        due("none in a new object", label(new AsmDesk(), "a"), THROWN);
     }
 
     // Promise 9
@@ -466,10 +459,10 @@ public final class PromiseTest {
         due("told", assembled(desk), 3);
         due("told", desk.told(), 3);
         write(desk, "halt;halt");
-        due("a fault", assembled(desk), -2);
+        due("a fault", assembled(desk), THROWN);
         due("told stays", desk.told(), 3);
         write(desk, "org 255;halt;halt;");
-        due("a fault", assembled(desk), -2);
+        due("a fault", assembled(desk), THROWN);
         due("told stays", desk.told(), 3);
         write(desk, "halt;");
         due("typing tells nothing", desk.told(), 3);
@@ -480,124 +473,9 @@ public final class PromiseTest {
         due("a tape full of halts", desk.told(), 96);
     }
 
-    // What the cases are made of
-
-    private static final long OUT = Long.MIN_VALUE;
-
-    private static int op(int number) {
-        return number << 24;
-    }
-
-    private static int d(int register) {
-        return register << 20;
-    }
-
-    private static int a(int register) {
-        return register << 16;
-    }
-
-    private static int b(int register) {
-        return register << 12;
-    }
-
-    private static void good(String text, int told) {
-        AsmDesk desk = new AsmDesk();
-        write(desk, text);
-        due(text, assembled(desk), told);
-        due(text + " kind", desk.fault(0), 0);
-        due(text + " place", desk.fault(1), 0);
-    }
-
-    private static void bad(String text, int kind, int place) {
-        AsmDesk desk = new AsmDesk();
-        write(desk, text);
-        faultDue(text, desk, kind, place);
-    }
-
-    private static void faultDue(String text, AsmDesk desk, int kind, int place) {
-        due(text, assembled(desk), -2);
-        due(text + " kind", desk.fault(0), kind);
-        due(text + " place", desk.fault(1), place);
-    }
-
+    /** The word of a text with one statement, at both ends of the addresses. */
     private static void laid(String text, int word) {
         laidAt(text, 0, word);
         laidAt("org 255;" + text, 255, word);
-    }
-
-    private static void laidAt(String text, int address, int word) {
-        AsmDesk desk = new AsmDesk();
-        write(desk, text);
-        due(text + " is good", assembled(desk) >= 0, true);
-        due(text, desk.word(address), word);
-    }
-
-    private static void write(AsmDesk desk, String text) {
-        for (int i = 0; i < text.length(); i += 8) {
-            String part = text.substring(i, Math.min(i + 8, text.length()));
-            due("type " + part, desk.type(packed(part), part.length()), true);
-        }
-    }
-
-    private static long packed(String text) {
-        long word = 0;
-        for (char c : text.toCharArray()) {
-            word = word << 8 | c;
-        }
-        return word;
-    }
-
-    /** -2 for the exception. */
-    private static int assembled(AsmDesk desk) {
-        try {
-            return desk.assemble();
-        } catch (IllegalArgumentException e) {
-            return -2;
-        }
-    }
-
-    private static int address(AsmDesk desk, String name) {
-        return address(desk, packed(name));
-    }
-
-    /** -2 for the exception. */
-    private static int address(AsmDesk desk, long name) {
-        try {
-            return desk.label(name);
-        } catch (NoSuchElementException e) {
-            return -2;
-        }
-    }
-
-    private static long word(AsmDesk desk, int k) {
-        try {
-            return desk.word(k);
-        } catch (IndexOutOfBoundsException e) {
-            return thrown(e);
-        }
-    }
-
-    private static long start(AsmDesk desk, int core) {
-        try {
-            return desk.start(core);
-        } catch (IndexOutOfBoundsException e) {
-            return thrown(e);
-        }
-    }
-
-    /** The machine's own exceptions are of classes below the one that is due. */
-    private static long thrown(IndexOutOfBoundsException e) {
-        return e.getClass() == IndexOutOfBoundsException.class ? OUT : OUT + 1;
-    }
-
-    private static void due(String what, boolean got, boolean want) {
-        due(what, got ? 1 : 0, want ? 1 : 0);
-    }
-
-    private static void due(String what, long got, long want) {
-        if (got != want) {
-            wrong++;
-            System.out.println(what + ": answered " + got + ", due is " + want);
-        }
     }
 }
